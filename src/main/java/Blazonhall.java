@@ -69,8 +69,7 @@ public final class Blazonhall {
         }
         needTincture(tincture);
         Simple simple = simpleOf(told);
-        simple.ordinary = ordinary;
-        simple.ordinaryTincture = tincture;
+        simple.tellOrdinary(ordinary, tincture);
         redrawArms();
         redrawPeople();
         return simple.faults;
@@ -87,9 +86,7 @@ public final class Blazonhall {
         }
         needTincture(tincture);
         Simple simple = simpleOf(told);
-        simple.kind = kind;
-        simple.charges = number;
-        simple.chargeTincture = tincture;
+        simple.tellCharges(kind, number, tincture);
         redrawArms();
         redrawPeople();
         return simple.faults;
@@ -655,6 +652,10 @@ public final class Blazonhall {
         return shown.picture.tinctureOn(shrunk(x), shrunk(y));
     }
 
+    private static int setOf(boolean isThere, int tincture) {
+        return isThere ? 1 << tincture : 0;
+    }
+
     /** Whether a tincture clashes with each one of a set; with none it does not. */
     private static boolean isClashing(int tincture, int beneath) {
         int alike = COLOURS;
@@ -881,25 +882,71 @@ public final class Blazonhall {
         int charges = 0;
         int chargeTincture = 0;
 
+        // What lies where, whichever tinctures the ordinary and the charges have.
+        int fieldUnderOrdinary = 0;
+        int fieldUnderCharges = 0;
+        int fieldSeen = 0;
+        boolean isOrdinaryUnderCharges = false;
+        boolean isOrdinarySeen = false;
+
         Simple(int number, int division, int first, int second) {
             super(number, MADE_SIMPLE);
             this.division = division;
             this.first = first;
             this.second = second;
+            lookThrough();
         }
 
-        int fieldOn(int x, int y) {
+        void tellOrdinary(int newOrdinary, int tincture) {
+            ordinary = newOrdinary;
+            ordinaryTincture = tincture;
+            lookThrough();
+        }
+
+        void tellCharges(int newKind, int newCharges, int tincture) {
+            kind = newKind;
+            charges = newCharges;
+            chargeTincture = tincture;
+            lookThrough();
+        }
+
+        private void lookThrough() {
+            fieldUnderOrdinary = 0;
+            fieldUnderCharges = 0;
+            fieldSeen = 0;
+            isOrdinaryUnderCharges = false;
+            isOrdinarySeen = false;
+            for (int y = 0; y < SIDE; y++) {
+                for (int x = 0; x < SIDE; x++) {
+                    lookThroughPoint(x, y);
+                }
+            }
+        }
+
+        private void lookThroughPoint(int x, int y) {
+            int ofField = 1 << fieldOn(x, y);
+            boolean hasOrdinary = isUnderOrdinary(ordinary, x, y);
+            boolean hasCharge = isUnderCharges(charges, x, y);
+            if (hasOrdinary) {
+                fieldUnderOrdinary |= ofField;
+                isOrdinaryUnderCharges = isOrdinaryUnderCharges || hasCharge;
+                isOrdinarySeen = isOrdinarySeen || !hasCharge;
+            } else if (hasCharge) {
+                fieldUnderCharges |= ofField;
+            } else {
+                fieldSeen |= ofField;
+            }
+        }
+
+        private int fieldOn(int x, int y) {
             return isOfSecond(division, x, y) ? second : first;
         }
 
-        /** The field with an ordinary of that tincture on it. */
-        int beneathCharges(int x, int y, int onOrdinary) {
-            return isUnderOrdinary(ordinary, x, y) ? onOrdinary : fieldOn(x, y);
-        }
-
         int shownOn(int x, int y) {
-            return isUnderCharges(charges, x, y)
-                    ? chargeTincture : beneathCharges(x, y, ordinaryTincture);
+            if (isUnderCharges(charges, x, y)) {
+                return chargeTincture;
+            }
+            return isUnderOrdinary(ordinary, x, y) ? ordinaryTincture : fieldOn(x, y);
         }
 
         int faultsShown() {
@@ -907,31 +954,14 @@ public final class Blazonhall {
         }
 
         int faultsWith(int onOrdinary, int onCharges) {
-            int underOrdinary = 0;
-            int underCharges = 0;
-            for (int y = 0; y < SIDE; y++) {
-                for (int x = 0; x < SIDE; x++) {
-                    if (isUnderOrdinary(ordinary, x, y)) {
-                        underOrdinary |= 1 << fieldOn(x, y);
-                    }
-                    if (isUnderCharges(charges, x, y)) {
-                        underCharges |= 1 << beneathCharges(x, y, onOrdinary);
-                    }
-                }
-            }
-            return (isClashing(onOrdinary, underOrdinary) ? 1 : 0)
+            int underCharges = fieldUnderCharges | setOf(isOrdinaryUnderCharges, onOrdinary);
+            return (isClashing(onOrdinary, fieldUnderOrdinary) ? 1 : 0)
                     + (isClashing(onCharges, underCharges) ? 1 : 0);
         }
 
         int seenWith(int onOrdinary, int onCharges) {
-            int set = 0;
-            for (int y = 0; y < SIDE; y++) {
-                for (int x = 0; x < SIDE; x++) {
-                    set |= 1 << (isUnderCharges(charges, x, y)
-                            ? onCharges : beneathCharges(x, y, onOrdinary));
-                }
-            }
-            return Integer.bitCount(set);
+            return Integer.bitCount(fieldSeen | setOf(isOrdinarySeen, onOrdinary)
+                    | setOf(charges != 0, onCharges));
         }
 
         int bestTincture(boolean isOfCharges) {

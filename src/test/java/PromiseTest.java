@@ -584,6 +584,20 @@ public final class PromiseTest {
         hall.ordinary(0, 6, ERMINE);
         hall.over(7, 0);
         Check.due("what is covered is not seen", hall.ofArms(8, 6), 129);
+        cornerIsSeen();
+    }
+
+    /** Each quartering leaves half of the bend, until one corner alone is left of it. */
+    private static void cornerIsSeen() {
+        Blazonhall hall = new Blazonhall();
+        hall.field(0, GULES, GULES);
+        hall.field(0, GULES, GULES);
+        hall.ordinary(1, 3, OR);
+        hall.quarter(1, 0, 0, 0);
+        hall.quarter(2, 0, 0, 0);
+        hall.quarter(3, 0, 0, 0);
+        Check.due("one point", hall.share(4, OR), 1 / 64.0);
+        Check.due("the first point is seen", hall.ofArms(4, 6), 5);
     }
 
     // ---- promise 15
