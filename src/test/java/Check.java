@@ -4,10 +4,22 @@ final class Check {
         Object answer();
     }
 
+    static final String INDEX = "throws.IndexOutOfBoundsException";
+    static final String ARGUMENT = "throws.IllegalArgumentException";
+    static final String STATE = "throws.IllegalStateException";
+
     private static int checked = 0;
     private static int wrong = 0;
 
     private Check() {
+    }
+
+    static int checked() {
+        return checked;
+    }
+
+    static int wrong() {
+        return wrong;
     }
 
     static void due(String what, Object got, Object want) {
@@ -30,15 +42,22 @@ final class Check {
     }
 
     static void index(String what, Call call) {
-        due(what, outcome(call), "throws.IndexOutOfBoundsException");
+        due(what, outcome(call), INDEX);
     }
 
     static void argument(String what, Call call) {
-        due(what, outcome(call), "throws.IllegalArgumentException");
+        due(what, outcome(call), ARGUMENT);
     }
 
     static void state(String what, Call call) {
-        due(what, outcome(call), "throws.IllegalStateException");
+        due(what, outcome(call), STATE);
+    }
+
+    /** For a call inside its bounds, whatever it answers. */
+    static void answered(String what, Call call) {
+        Object got = outcome(call);
+        due(what, got instanceof String && ((String) got).contains("throws") ? got : "an answer",
+                "an answer");
     }
 
     static void finish(String test) {

@@ -53,7 +53,8 @@ final class Model {
             case "nearest": return isPerson(a) ? (Object) nearest(a) : INDEX;
             case "would": return would(a, b, c, d);
             case "best":
-                return !isArms(a) ? INDEX : simple.get(a)[0] != 0 ? STATE : (Object) best(a, b == 1);
+                return !isArms(a) ? INDEX : simple.get(a)[0] != 0 ? STATE
+                        : (Object) best(a, b == 1);
             default: return digest();
         }
     }

@@ -6,7 +6,8 @@ public final class ModelTest {
         "over", "founder", "born", "grant", "ring", "at", "bears", "ofArms", "ofPerson", "blazon",
         "row", "share", "many", "apart", "nearest", "would", "best", "digest"};
     private static final int RUNS = 150;
-    private static final int MOST_CALLS = 512;
+    /** The digest at the end is the 512th call of a run: what later ones answer is free. */
+    private static final int MOST_CALLS = 511;
 
     private ModelTest() {
     }

@@ -85,7 +85,7 @@ public final class PromiseTest {
     private static void draws(int division, String rows) {
         Blazonhall hall = new Blazonhall();
         Check.due("field", hall.field(division, OR, GULES), 0);
-        Check.due("picture of division " + division, picture(hall, 0), rows);
+        Check.due("picture of division " + division, Halls.picture(hall, 0), rows);
         Check.due("faults of a field alone", hall.ofArms(0, 5), 0);
         Check.due("the next field's number", hall.field(division, ERMINE, ERMINE), 1);
         Check.due("arms", hall.many(0), 2);
@@ -102,7 +102,7 @@ public final class PromiseTest {
         Check.argument("first 8", () -> hall.field(0, 8, 0));
         Check.argument("second 8", () -> hall.field(0, 0, 8));
         Check.due("arms after refusals", hall.many(0), 0);
-        fill(hall);
+        Halls.fillArms(hall);
         Check.state("the 11th field", () -> hall.field(0, 0, 0));
         Check.argument("argument ahead of state", () -> hall.field(0, 0, 8));
         Check.argument("argument ahead of state", () -> hall.field(6, 0, 0));
@@ -115,29 +115,31 @@ public final class PromiseTest {
         String blank = "ZZZZZZZZ";
         String full = "AAAAAAAA";
         String pale = "ZZZAAZZZ";
-        ordinaryIs(0, times(blank, 8));
-        ordinaryIs(1, times(pale, 8));
-        ordinaryIs(2, times(blank, 3) + " " + times(full, 2) + " " + times(blank, 3));
+        ordinaryIs(0, Halls.times(blank, 8));
+        ordinaryIs(1, Halls.times(pale, 8));
+        ordinaryIs(2, Halls.times(blank, 3) + " " + Halls.times(full, 2) + " "
+                + Halls.times(blank, 3));
         ordinaryIs(3, "AAZZZZZZ AAAZZZZZ ZAAAZZZZ ZZAAAZZZ ZZZAAAZZ ZZZZAAAZ ZZZZZAAA ZZZZZZAA");
-        ordinaryIs(4, times(pale, 3) + " " + times(full, 2) + " " + times(pale, 3));
+        ordinaryIs(4, Halls.times(pale, 3) + " " + Halls.times(full, 2) + " "
+                + Halls.times(pale, 3));
         ordinaryIs(5, "AZZZZZZA ZAZZZZAZ ZZAZZAZZ ZZZAAZZZ ZZZAAZZZ ZZAZZAZZ ZAZZZZAZ AZZZZZZA");
-        ordinaryIs(6, times(full, 2) + " " + times(blank, 6));
-        ordinaryIs(7, full + " " + times("AZZZZZZA", 6) + " " + full);
+        ordinaryIs(6, Halls.times(full, 2) + " " + Halls.times(blank, 6));
+        ordinaryIs(7, full + " " + Halls.times("AZZZZZZA", 6) + " " + full);
         Blazonhall hall = new Blazonhall();
         hall.field(0, AZURE, AZURE);
         hall.ordinary(0, 6, OR);
         hall.ordinary(0, 2, ARGENT);
-        Check.due("in place of the one before", picture(hall, 0),
-                times(blank, 3) + " " + times(full, 2) + " " + times(blank, 3));
+        Check.due("in place of the one before", Halls.picture(hall, 0),
+                Halls.times(blank, 3) + " " + Halls.times(full, 2) + " " + Halls.times(blank, 3));
         hall.ordinary(0, 0, OR);
-        Check.due("none in place of it", picture(hall, 0), times(blank, 8));
+        Check.due("none in place of it", Halls.picture(hall, 0), Halls.times(blank, 8));
     }
 
     private static void ordinaryIs(int ordinary, String rows) {
         Blazonhall hall = new Blazonhall();
         hall.field(0, AZURE, OR);
         Check.due("ordinary", hall.ordinary(0, ordinary, ARGENT), 0);
-        Check.due("picture of ordinary " + ordinary, picture(hall, 0), rows);
+        Check.due("picture of ordinary " + ordinary, Halls.picture(hall, 0), rows);
     }
 
     private static void ordinaryFaults() {
@@ -188,30 +190,35 @@ public final class PromiseTest {
 
     private static void chargeDraws() {
         String blank = "VVVVVVVV";
-        chargesAre(0, times(blank, 8));
-        chargesAre(1, times(blank, 3) + " " + times("VVVOOVVV", 2) + " " + times(blank, 3));
-        chargesAre(2, times(blank, 3) + " " + times("VOOVVOOV", 2) + " " + times(blank, 3));
-        chargesAre(3, blank + " " + times("VOOVVOOV", 2) + " " + times(blank, 2) + " "
-                + times("VVVOOVVV", 2) + " " + blank);
+        chargesAre(0, Halls.times(blank, 8));
+        chargesAre(1, Halls.times(blank, 3) + " " + Halls.times("VVVOOVVV", 2) + " "
+                + Halls.times(blank, 3));
+        chargesAre(2, Halls.times(blank, 3) + " " + Halls.times("VOOVVOOV", 2) + " "
+                + Halls.times(blank, 3));
+        chargesAre(3, blank + " " + Halls.times("VOOVVOOV", 2) + " " + Halls.times(blank, 2) + " "
+                + Halls.times("VVVOOVVV", 2) + " " + blank);
         Blazonhall hall = new Blazonhall();
         hall.field(0, VERT, VERT);
         hall.charge(0, 0, 2, OR);
         hall.ordinary(0, 2, ARGENT);
-        Check.due("they lie over the ordinary", picture(hall, 0),
-                times(blank, 3) + " " + times("AOOAAOOA", 2) + " " + times(blank, 3));
+        Check.due("they lie over the ordinary", Halls.picture(hall, 0),
+                Halls.times(blank, 3) + " " + Halls.times("AOOAAOOA", 2) + " "
+                + Halls.times(blank, 3));
         hall.charge(0, 5, 1, GULES);
-        Check.due("in place of those before", picture(hall, 0),
-                times(blank, 3) + " " + times("AAAGGAAA", 2) + " " + times(blank, 3));
+        Check.due("in place of those before", Halls.picture(hall, 0),
+                Halls.times(blank, 3) + " " + Halls.times("AAAGGAAA", 2) + " "
+                + Halls.times(blank, 3));
         hall.charge(0, 5, 0, GULES);
-        Check.due("none in place of those", picture(hall, 0),
-                times(blank, 3) + " " + times("AAAAAAAA", 2) + " " + times(blank, 3));
+        Check.due("none in place of those", Halls.picture(hall, 0),
+                Halls.times(blank, 3) + " " + Halls.times("AAAAAAAA", 2) + " "
+                + Halls.times(blank, 3));
     }
 
     private static void chargesAre(int number, String rows) {
         Blazonhall hall = new Blazonhall();
         hall.field(0, VERT, ARGENT);
         Check.due("charge", hall.charge(0, 3, number, OR), 0);
-        Check.due("picture of " + number + " charges", picture(hall, 0), rows);
+        Check.due("picture of " + number + " charges", Halls.picture(hall, 0), rows);
     }
 
     private static void chargeFaults() {
@@ -266,7 +273,7 @@ public final class PromiseTest {
         hall.field(1, AZURE, ARGENT);
         hall.ordinary(1, 7, VERT);
         Check.due("impale", hall.impale(0, 1), 2);
-        Check.due("impaled", picture(hall, 2), "OOOOVVVV GOOOVZAA GOOOVZAA GGOOVZAA "
+        Check.due("impaled", Halls.picture(hall, 2), "OOOOVVVV GOOOVZAA GOOOVZAA GGOOVZAA "
                 + "GGOOVZAA GGGOVZAA GGGOVZAA GGGGVVVV");
         refusesTwo(hall, (left, right) -> hall.impale(left, right), 3);
     }
@@ -283,7 +290,7 @@ public final class PromiseTest {
         Check.index("itself", () -> call.call(count, 0));
         Check.index("itself", () -> call.call(0, count));
         Check.due("arms after refusals", hall.many(0), count);
-        fill(hall);
+        Halls.fillArms(hall);
         Check.index("index ahead of state", () -> call.call(10, 0));
         Check.index("index ahead of state", () -> call.call(0, 10));
         Check.state("full", () -> call.call(0, 0));
@@ -298,7 +305,7 @@ public final class PromiseTest {
         hall.field(0, PURPURE, OR);
         hall.ordinary(3, 7, ERMINE);
         Check.due("quarter", hall.quarter(0, 1, 2, 3), 4);
-        Check.due("quartered", picture(hall, 4), "OOOOZZAA GOOOZZAA GGOOZZAA GGGOZZAA "
+        Check.due("quartered", Halls.picture(hall, 4), "OOOOZZAA GOOOZZAA GGOOZZAA GGGOZZAA "
                 + "SSSSEEEE SSSSEPPP VVVVEPPP VVVVEPPP");
         for (int place = 0; place < 4; place++) {
             for (int wrong : new int[] {-1, 5, Integer.MIN_VALUE, Integer.MAX_VALUE}) {
@@ -306,7 +313,7 @@ public final class PromiseTest {
             }
         }
         Check.due("arms after refusals", hall.many(0), 5);
-        fill(hall);
+        Halls.fillArms(hall);
         quarterRefuses(hall, 3, 10);
         Check.state("full", () -> hall.quarter(0, 1, 2, 3));
         Check.due("arms, full", hall.many(0), 10);
@@ -325,7 +332,7 @@ public final class PromiseTest {
         hall.field(1, AZURE, ARGENT);
         hall.ordinary(1, 6, VERT);
         Check.due("over", hall.over(0, 1), 2);
-        Check.due("over", picture(hall, 2), "OOOOOOOO GOOOOOOO GGVVVVOO GGZZAAOO "
+        Check.due("over", Halls.picture(hall, 2), "OOOOOOOO GOOOOOOO GGVVVVOO GGZZAAOO "
                 + "GGZZAAOO GGZZAAOO GGGGGGOO GGGGGGGO");
         refusesTwo(hall, (large, small) -> hall.over(large, small), 3);
     }
@@ -372,8 +379,8 @@ public final class PromiseTest {
         hall.field(0, AZURE, AZURE);
         Check.due("founder", hall.founder(1), 0);
         Check.due("founder", hall.founder(0), 1);
-        Check.due("what a founder bears", borne(hall, 1), picture(hall, 0));
-        Check.due("what a founder bears", borne(hall, 0), picture(hall, 1));
+        Check.due("what a founder bears", Halls.borne(hall, 1), Halls.picture(hall, 0));
+        Check.due("what a founder bears", Halls.borne(hall, 0), Halls.picture(hall, 1));
         for (int wrong : WRONG) {
             Check.index("arms", () -> hall.founder(wrong));
         }
@@ -393,7 +400,7 @@ public final class PromiseTest {
         hall.founder(0);
         hall.founder(1);
         Check.due("born", hall.born(0, 1), 2);
-        Check.due("quartered first, other, other, first", borne(hall, 2),
+        Check.due("quartered first, other, other, first", Halls.borne(hall, 2),
                 "OOOOZZAA GOOOZZAA GGOOZZAA GGGOZZAA ZZAAOOOO ZZAAGOOO ZZAAGGOO ZZAAGGGO");
         for (int wrong : WRONG) {
             Check.index("first", () -> hall.born(wrong, wrong));
@@ -453,7 +460,7 @@ public final class PromiseTest {
         Check.due("quartered", hall.row(3, 0), "ZZZZZZVV");
         hall.born(1, 2);
         Check.due("2 was not sole ahead of it", hall.ofPerson(4, 5), 0);
-        Check.due("what the first parent bears", borne(hall, 4), borne(hall, 1));
+        Check.due("what the first parent bears", Halls.borne(hall, 4), Halls.borne(hall, 1));
         Check.due("told for good", hall.ofPerson(3, 5), 1);
         Check.due("told for good", hall.row(3, 0), "ZZZZZZVV");
     }
@@ -524,12 +531,12 @@ public final class PromiseTest {
         hall.born(0, 1);
         hall.born(2, 1);
         hall.ordinary(0, 6, OR);
-        Check.due("a grandchild's", borne(hall, 3), "OOVVVVVV ZZVVVVVV VVOOVVVV VVZZVVVV "
+        Check.due("a grandchild's", Halls.borne(hall, 3), "OOVVVVVV ZZVVVVVV VVOOVVVV VVZZVVVV "
                 + "VVVVOOVV VVVVZZVV VVVVVVOO VVVVVVZZ");
         hall.born(0, 1);
         hall.born(1, 4);
         Check.due("a mark is not seen at half the size", hall.row(5, 0), "VVVVVVVV");
-        Check.due("of the first parent alone", borne(hall, 5), borne(hall, 1));
+        Check.due("of the first parent alone", Halls.borne(hall, 5), Halls.borne(hall, 1));
     }
 
     // ---- promise 14
@@ -876,27 +883,10 @@ public final class PromiseTest {
     // ---- promise 22
 
     private static void wouldBe() {
-        Blazonhall hall = new Blazonhall();
-        hall.field(4, OR, GULES);
-        hall.field(1, AZURE, ARGENT);
-        hall.founder(0);
-        hall.founder(1);
         for (int i = 2; i < 12; i++) {
-            int first = i % 3 == 2 ? 0 : i % 3 == 0 ? 1 : 2;
-            int other = i % 2 == 0 ? (first + 1) % 2 : i - 1;
-            long before = hall.digest();
-            StringBuilder told = new StringBuilder();
-            for (int point = 0; point < 64; point++) {
-                told.append(hall.would(first, other, point % 8, point / 8));
-            }
-            Check.due("nothing is changed", hall.digest(), before);
-            Check.due("born", hall.born(first, other), i);
-            StringBuilder came = new StringBuilder();
-            for (int point = 0; point < 64; point++) {
-                came.append(hall.bears(i, point % 8, point / 8));
-            }
-            Check.due("as it came", told.toString(), came.toString());
+            wouldBeAsItCame(i);
         }
+        Blazonhall hall = peopled(12);
         Check.due("as if there could be more than 12", hall.would(1, 0, 0, 0), AZURE);
         wouldBeMarked();
         for (int wrong : new int[] {-1, 12, Integer.MIN_VALUE, Integer.MAX_VALUE}) {
@@ -909,6 +899,44 @@ public final class PromiseTest {
         Check.index("x 8", () -> hall.would(0, 1, 8, 0));
         Check.index("y 8", () -> hall.would(0, 1, 0, 8));
         Check.argument("the same", () -> hall.would(3, 3, 0, 0));
+    }
+
+    private static int firstParentOf(int child) {
+        return child % 3 == 2 ? 0 : child % 3 == 0 ? 1 : 2;
+    }
+
+    private static int otherParentOf(int child) {
+        return child % 2 == 0 ? (firstParentOf(child) + 1) % 2 : child - 1;
+    }
+
+    private static Blazonhall peopled(int count) {
+        Blazonhall hall = new Blazonhall();
+        hall.field(4, OR, GULES);
+        hall.field(1, AZURE, ARGENT);
+        hall.founder(0);
+        hall.founder(1);
+        for (int child = 2; child < count; child++) {
+            hall.born(firstParentOf(child), otherParentOf(child));
+        }
+        return hall;
+    }
+
+    private static void wouldBeAsItCame(int child) {
+        int first = firstParentOf(child);
+        int other = otherParentOf(child);
+        Blazonhall hall = peopled(child);
+        long before = hall.digest();
+        StringBuilder told = new StringBuilder();
+        for (int point = 0; point < 64; point++) {
+            told.append(hall.would(first, other, point % 8, point / 8));
+        }
+        Check.due("nothing is changed", hall.digest(), before);
+        Check.due("born", hall.born(first, other), child);
+        StringBuilder came = new StringBuilder();
+        for (int point = 0; point < 64; point++) {
+            came.append(hall.bears(child, point % 8, point / 8));
+        }
+        Check.due("as it came", told.toString(), came.toString());
     }
 
     private static void wouldBeMarked() {
@@ -1045,39 +1073,5 @@ public final class PromiseTest {
             d = d * 31 + hall.nearest(person);
         }
         return d;
-    }
-
-    // ---- helpers
-
-    private static void fill(Blazonhall hall) {
-        while (hall.many(0) < 10) {
-            hall.field(0, 0, 0);
-        }
-    }
-
-    private static String times(String row, int count) {
-        return String.join(" ", java.util.Collections.nCopies(count, row));
-    }
-
-    private static String picture(Blazonhall hall, int arms) {
-        StringBuilder rows = new StringBuilder();
-        for (int y = 0; y < 8; y++) {
-            for (int x = 0; x < 8; x++) {
-                rows.append("OAGZSVPE".charAt(hall.at(arms, x, y)));
-            }
-            rows.append(y < 7 ? " " : "");
-        }
-        return rows.toString();
-    }
-
-    private static String borne(Blazonhall hall, int person) {
-        StringBuilder rows = new StringBuilder();
-        for (int y = 0; y < 8; y++) {
-            for (int x = 0; x < 8; x++) {
-                rows.append("OAGZSVPE".charAt(hall.bears(person, x, y)));
-            }
-            rows.append(y < 7 ? " " : "");
-        }
-        return rows.toString();
     }
 }
