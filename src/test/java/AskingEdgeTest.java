@@ -793,6 +793,14 @@ public final class AskingEdgeTest {
         bestAre(ARGENT, ARGENT, Halls.simple(0, GULES, OR, 1, OR, 2, OR));
         // Gules, Or and Argent are seen already, and so Azure is the first that is new.
         bestAre(AZURE, ARGENT, Halls.simple(3, GULES, OR, 7, SABLE, 3, ARGENT));
+        // An ordinary that is there no more is not seen, nor is one that charges have left.
+        Blazonhall hall = Halls.simple(0, AZURE, OR, 1, OR, 2, ARGENT);
+        Check.due("beside a pale Or", hall.best(0, true), ARGENT);
+        hall.ordinary(0, 0, OR);
+        bestAre(-1, OR, hall);
+        hall.ordinary(0, 1, GULES);
+        hall.charge(0, 0, 0, OR);
+        bestAre(OR, -1, hall);
         // The fewest faults go ahead: on Argent, Or would show as many as Gules, which is greater.
         bestAre(-1, GULES, Halls.simple(0, ARGENT, OR, 0, OR, 1, OR));
     }
