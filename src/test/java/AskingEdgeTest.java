@@ -182,7 +182,6 @@ public final class AskingEdgeTest {
         Check.due("neither a second one nor what is not there", hall.ofArms(0, 6), 1 << AZURE);
         hall.field(5, AZURE, AZURE);
         Check.due("the same twice", hall.ofArms(1, 6), 1 << AZURE);
-        // A bend hides the second one at (3, 4) and (4, 3), a charge hides the bend's there.
         hall.field(3, AZURE, AZURE);
         hall.charge(2, 0, 1, OR);
         hall.impale(2, 2);
@@ -193,6 +192,25 @@ public final class AskingEdgeTest {
         Check.due("what lies beneath is not seen", hall.ofArms(5, 6), 8);
         hall.charge(2, 0, 3, OR);
         Check.due("but what stands out is", hall.ofArms(5, 6), 9);
+        cornersAreSeen();
+    }
+
+    /** Each quartering leaves half of the bend, until it is one corner of the shield alone. */
+    private static void cornersAreSeen() {
+        Blazonhall hall = Halls.simple(0, AZURE, AZURE, 3, OR, 0, OR);
+        hall.field(0, AZURE, AZURE);
+        hall.quarter(0, 1, 1, 1);
+        hall.quarter(2, 1, 1, 1);
+        hall.quarter(3, 1, 1, 1);
+        Check.due("at (0, 0)", hall.at(4, 0, 0), OR);
+        Check.due("there alone", hall.share(4, OR), 1 / 64.0);
+        Check.due("the first point is seen", hall.ofArms(4, 6), 9);
+        hall.quarter(1, 1, 1, 0);
+        hall.quarter(1, 1, 1, 5);
+        hall.quarter(1, 1, 1, 6);
+        Check.due("at (7, 7)", hall.at(7, 7, 7), OR);
+        Check.due("there alone", hall.share(7, OR), 1 / 64.0);
+        Check.due("the last point is seen", hall.ofArms(7, 6), 9);
     }
 
     // ---- promise 15
